@@ -256,9 +256,6 @@ public final class NameBoard {
         }
         board.isOpen[hearing] = false;
         int name = board.names[hearing];
-        if (!state.speech.hasName(name)) {
-            return WRONG;
-        }
         int why = view.whyRefused(state, hearing, name);
         if (why == 0) {
             board.settle(name, state.speech.places[name], state.speech.tongues[name], state.now);
@@ -319,10 +316,9 @@ public final class NameBoard {
             case 0:
                 return view.isLame(state, sign) ? 1 : 0;
             case 1:
-                return view.dueYear(state, sign);
+                return view.isLame(state, sign) ? view.dueYear(state, sign) : NONE;
             case 2:
-                int due = view.dueYear(state, sign);
-                return due == NONE ? 0 : Math.max(0, state.now - due);
+                return view.isLame(state, sign) ? Math.max(0, state.now - view.dueYear(state, sign)) : 0;
             case 3:
                 return signs.made[sign];
             case 4:
@@ -1693,27 +1689,24 @@ public final class NameBoard {
             return lame;
         }
 
+        /** By when a LAME SIGN must be made anew: goes back from NOW to when its row was SHOWN. */
         int dueYear(State s, int sign) {
-            if (!isLame(s, sign)) {
-                return NONE;
-            }
-            int act = s.acts.inForce(s.now);
-            return lameSince(s, sign) + s.acts.numberOf(act, Acts.SIGN, 10);
-        }
-
-        /** Of a SIGN that isLame() has just put into row one: goes back to what it shows. */
-        int lameSince(State s, int sign) {
+            int place = s.signs.places[sign];
             int made = s.signs.made[sign];
-            for (int year = s.now; year > made; year--) {
-                // A YEAR in which nothing was told has what the one ahead of it had.
-                if (s.told[year] || s.acts.dependsOnYear(s.acts.inForce(year))) {
-                    show(s, s.signs.places[sign], year - 1, year - 1, other);
-                    if (one.readsAs(other)) {
-                        return year;
-                    }
+            show(s, place, made, made, one);
+            int since = s.now;
+            boolean unlike = true;
+            for (int year = s.now - 1; year >= made && unlike; year--) {
+                // Where nothing was told in the YEAR behind this one, both have SHOWN the same.
+                if (s.told[year + 1] || s.acts.dependsOnYear(s.acts.inForce(year))) {
+                    show(s, place, year, year, other);
+                    unlike = !one.readsAs(other);
+                }
+                if (unlike) {
+                    since = year;
                 }
             }
-            return made;
+            return since + s.acts.numberOf(s.acts.inForce(s.now), Acts.SIGN, 10);
         }
     }
 
