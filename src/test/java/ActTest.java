@@ -75,6 +75,8 @@ public final class ActTest {
         faulty("far 1;", 1, 5);
         faulty("far 1 apart;", 1, 11);
         faulty("far apart 1;", 1, 4);
+        faulty("far 1 2;", 1, 6);
+        faulty("far 1 aparts 2;", 1, 6);
         faulty("far 10000 apart 1;", 2, 4);
         faulty("far 1 apart 10000;", 2, 12);
         faulty("dead 1 if year < 1;", 1, 7);
@@ -162,6 +164,11 @@ public final class ActTest {
         NameBoard b = land();
         Due.act(b, "first 1 if share 0 > 0; first 2 if share 0 = 0 and people = 0;");
         due.is("shares without people", b.first(0, 0, 0), 2);
+        due.is("a FAULT", Due.act(b, "first 0 if year = 7; both if year = 7; far 3 apart 4; x"), -4);
+        due.is("the next one", Due.act(b, "first 1; both;"), 2);
+        b.people(0, 2, 1);
+        due.is("nothing of the faulty one is left", b.first(0, 0, 0), 1);
+        due.is("nothing of the faulty one is left", b.beside(0, 0, 0), 2);
     }
 
     private static void asKnown() {

@@ -7,6 +7,7 @@ public final class ImageTest {
         count();
         keep();
         backToAll();
+        overwritten();
         notKept();
         due.end();
     }
@@ -141,6 +142,102 @@ public final class ImageTest {
         due.is("count(1)", empty.count(1), 0);
         due.is("count(2)", empty.count(2), 0);
         due.is("place", empty.place(0, 0), 0);
+    }
+
+    /** Between an IMAGE and the way back to it, all that it has is told otherwise in the same rows. */
+    private static void overwritten() {
+        due.part("39 told otherwise in between");
+        NameBoard b = new NameBoard();
+        b.keep(0);
+        tellOneWay(b);
+        String one = told(b) + closings(b);
+        b.back(0);
+        tellOneWay(b);
+        b.keep(1);
+        b.back(0);
+        tellOtherWay(b);
+        String other = told(b) + closings(b);
+        due.is("they are unlike", one.equals(other) ? 1 : 0, 0);
+        b.back(0);
+        due.is("nothing is told", b.count(1) + b.count(2) + b.count(3) + b.count(4) + b.count(5) + b.count(6) + b.count(7), 0);
+        tellOtherWay(b);
+        b.keep(2);
+        b.back(1);
+        due.is("the one way", told(b) + closings(b), one);
+        b.back(2);
+        due.is("the other way", told(b) + closings(b), other);
+        b.back(1);
+        due.is("the one way", told(b) + closings(b), one);
+    }
+
+    private static void tellOneWay(NameBoard b) {
+        b.place(0, 0);
+        b.place(3, 4);
+        Due.spelling(b, 0, "after b a>e before #;c>-;");
+        Due.act(b, "first 0 if not share 0 < 30 and year < 30; both if parts = 1; far 5 apart 1; dead 7; votes 60; sign 6;");
+        b.part(1, 0);
+        b.people(0, 0, 5);
+        b.people(1, 1, 9);
+        Due.name(b, "abacba", 0, 0);
+        Due.tape(b, "bab").name(0, 1, 0);
+        Due.name(b, "abecba", 1, 0);
+        Due.settle(b, 0);
+        b.next(10);
+        Due.spelling(b, 1, "b>p;");
+        b.people(1, 1, 3);
+        Due.settle(b, 1);
+        b.sign(0, 40);
+        b.next(5);
+        b.undo(0, 0);
+        b.sign(1, 50);
+        b.ask(2);
+        b.vote(2, 0, true);
+        b.vote(2, 1, true);
+        b.vote(2, 2, false);
+    }
+
+    private static void tellOtherWay(NameBoard b) {
+        b.place(40, 0);
+        b.place(7, 400);
+        Due.spelling(b, 1, "a>o before b;b>dd;b>d;");
+        Due.act(b, "votes 10; first 2 if share 1 > 10 and people > 3; dead 70; both; far 999 apart 9; sign 1;");
+        b.next(2);
+        b.people(1, 2, 7);
+        b.part(0, 1);
+        b.people(0, 0, 8);
+        Due.name(b, "cc", 1, 2);
+        Due.name(b, "ccdd", 1, 1);
+        Due.tape(b, "d").name(0, 1, 2);
+        Due.settle(b, 1);
+        Due.settle(b, 2);
+        Due.act(b, "first 1; both;");
+        Due.spelling(b, 2, "c>a;");
+        b.sign(1, 3);
+        b.next(9);
+        Due.settle(b, 0);
+        b.sign(0, 4);
+        b.next(1);
+        b.ask(2);
+        b.vote(3, 4, false);
+        b.vote(3, 0, true);
+    }
+
+    /** What is open is closed, and each NAME is put to the board once more; then all is as it was. */
+    private static String closings(NameBoard b) {
+        int was = b.count(5);
+        StringBuilder text = new StringBuilder();
+        for (int i = 0; i < was; i++) {
+            text.append(b.close(i)).append(' ');
+        }
+        for (int i = 0; i < b.count(2); i++) {
+            text.append(Due.settle(b, i)).append(' ');
+        }
+        for (int i = 0; i < 3; i++) {
+            for (int k = 0; k < 3; k++) {
+                text.append(b.settled(i, k, 399, 399)).append(' ').append(b.edits(i, k, 399)).append(' ');
+            }
+        }
+        return text.toString();
     }
 
     private static void notKept() {

@@ -131,6 +131,13 @@ public final class LandTest {
         due.is("live(3)", b.live(3, NONE, 10, 10), 0);
         due.is("part(3, 1)", b.part(3, 1), 0);
         due.is("live(1)", b.live(1, NONE, 10, 10), 7);
+        NameBoard chain = places(40);
+        for (int i = 1; i < 40; i++) {
+            due.is("chain", chain.part(i, i - 1), 0);
+            chain.people(i, 0, 1);
+        }
+        due.is("39 parts, one in the other", chain.live(0, 0, 0, 0), 39);
+        due.is("the last of them", chain.part(0, 39), -5);
     }
 
     private static void people() {

@@ -9,6 +9,7 @@ public final class PaperTest {
         join();
         joinRefused();
         joinTies();
+        joinAgain();
         joinByYear();
         joined();
         due.end();
@@ -155,6 +156,17 @@ public final class PaperTest {
             Due.name(b, "a", i, 0);
         }
         joins(b, 43, "1 2", "a", "a");
+    }
+
+    /** What one join() worked out is not left in the next one. */
+    private static void joinAgain() {
+        due.part("35 once more");
+        NameBoard b = land(30, "ab", "cd", "ef", "gh");
+        joins(b, 89, "3 2 1 0", "gh", "ef", "cd", "ab");
+        joins(b, 20, "2", "ef");
+        joins(b, 40, "1 0", "efe", "ab");
+        joins(b, 66, "0 1 2", "ab", "cd", "ef");
+        joins(b, 43, "1 2", "cd", "ef");
     }
 
     private static void joinByYear() {

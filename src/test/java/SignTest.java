@@ -8,6 +8,7 @@ public final class SignTest {
         anew();
         lame();
         lameByYear();
+        lameByAll();
         lameAndBack();
         sameYear();
         plan();
@@ -132,6 +133,41 @@ public final class SignTest {
         b.next(1);
         b.anew(0);
         state(b, 0, 0, NONE, 0);
+    }
+
+    /** Each thing that can change what is SHOWN: it is LAME from that YEAR on, not from a later one. */
+    private static void lameByAll() {
+        due.part("30 by all that is told");
+        for (int what = 0; what < 7; what++) {
+            NameBoard b = land(2);
+            b.people(1, 1, 9);
+            b.sign(0, 1);
+            b.next(3);
+            b.people(1, 1, 8);
+            b.next(4);
+            switch (what) {
+                case 0 -> b.part(1, 0);
+                case 1 -> b.people(0, 1, 1);
+                case 2 -> Due.act(b, "first 1;");
+                case 3 -> Due.spelling(b, 0, "o>a;");
+                case 4 -> Due.settle(b, 1);
+                case 5 -> b.undo(0, 0);
+                default -> {
+                    b.row(0, 0, 3);
+                    b.write(0, 1, 2);
+                    b.write(0, 2, 5);
+                    b.counted(0);
+                }
+            }
+            b.next(5);
+            b.people(1, 1, 7);
+            state(b, 0, 1, 17, 0);
+            b.keep(0);
+            b.next(6);
+            state(b, 0, 1, 17, 1);
+            b.back(0);
+            state(b, 0, 1, 17, 0);
+        }
     }
 
     /** LAME, then not, then LAME again: it counts from the last time on. */

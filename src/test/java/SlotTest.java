@@ -46,6 +46,9 @@ public final class SlotTest {
         due.is("in place of another one", b.row(3, 3, 3), 0);
         b.counted(3);
         due.is("all 0", b.live(0, 0, 0, 0), 0);
+        b.write(3, 0, 7);
+        b.row(3, 3, 3);
+        due.is("the first one, too", b.counted(3), 1);
         due.is("write(3, 3)", b.write(3, 3, 1), -7);
         due.is("count(12)", b.count(12), 2);
     }

@@ -197,11 +197,14 @@ public final class TextTest {
         spelled(b, 0, 11, "", "");
         Due.spelling(b, 0, "ka>ab;a>zzz;bn>x;");
         spelled(b, 0, 11, "abnzzzk", "500 500 -3 501 501 501 -3");
+        due.is("a FAULT", Due.spelling(b, 1, "after x k>ccc before x; a>bbb before x; q"), -4);
+        due.is("the next one", Due.spelling(b, 1, "k>-;a>o;"), 2);
+        spelled(b, 1, 11, "ono", "601 -3 601");
         due.is("name -1", b.spell(-1, 0), -2);
         due.is("name 2", b.spell(2, 0), -2);
         due.is("year -1", b.spell(0, -1), -2);
         due.is("year 400", b.spell(0, 400), -2);
-        due.is("IN HAND stays", Due.inHand(b), "abnzzzk");
+        due.is("IN HAND stays", Due.inHand(b), "ono");
         Due.name(b, "aaaaaaaaaaaa", 0, 0);
         due.is("36 letters", b.spell(2, 11), 36);
     }
@@ -310,6 +313,7 @@ public final class TextTest {
         due.is("sitting, kitten", b.edits(1, 0, 0), 3);
         due.is("with itself", b.edits(0, 0, 0), 0);
         due.is("kitten, a", b.edits(0, 2, 0), 6);
+        due.is("a, kitten", b.edits(2, 0, 0), 6);
         due.is("kitten, zzzzzz", b.edits(0, 4, 0), 6);
         due.is("kitten, ittenk", b.edits(0, 5, 0), 2);
         due.is("kitten, kitten", b.edits(0, 3, 0), 0);
