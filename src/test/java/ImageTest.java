@@ -8,6 +8,7 @@ public final class ImageTest {
         keep();
         backToAll();
         overwritten();
+        actByYear();
         notKept();
         due.end();
     }
@@ -57,7 +58,11 @@ public final class ImageTest {
         for (int what = 0; what <= 11; what++) {
             text.append(what == 9 || what == 10 ? 0 : b.count(what)).append(' ');
         }
-        for (int year = 0; year < 40; year += 5) {
+        for (int year = 0; year < 40; year++) {
+            for (int name = 0; name < b.count(2); name++) {
+                b.spell(name, year);
+                text.append(Due.inHand(b)).append(' ').append(Due.leads(b)).append(' ');
+            }
             for (int place = 0; place < 2; place++) {
                 b.shown(place, year, 39);
                 text.append(Due.inHand(b)).append(' ').append(Due.leads(b)).append(' ');
@@ -170,6 +175,25 @@ public final class ImageTest {
         due.is("the one way", told(b) + closings(b), one);
     }
 
+    /** An ACT that looks at the YEAR, gone back to over one that does not. */
+    private static void actByYear() {
+        due.part("39 an ACT that looks at the YEAR");
+        NameBoard b = new NameBoard();
+        b.place(0, 0);
+        Due.name(b, "a", 0, 0);
+        Due.settle(b, 0);
+        b.sign(0, 1);
+        b.keep(0);
+        Due.act(b, "first 1 if year > 20;");
+        b.next(50);
+        b.keep(1);
+        due.is("LAME from 21 on", b.signOf(0, 1), 31);
+        b.back(0);
+        Due.act(b, "first 1 if people > 20;");
+        b.back(1);
+        due.is("LAME from 21 on", b.signOf(0, 1), 31);
+    }
+
     private static void tellOneWay(NameBoard b) {
         b.place(0, 0);
         b.place(3, 4);
@@ -199,14 +223,14 @@ public final class ImageTest {
     private static void tellOtherWay(NameBoard b) {
         b.place(40, 0);
         b.place(7, 400);
-        Due.spelling(b, 1, "a>o before b;b>dd;b>d;");
-        Due.act(b, "votes 10; first 2 if share 1 > 10 and people > 3; dead 70; both; far 999 apart 9; sign 1;");
         b.next(2);
+        Due.spelling(b, 0, "a>o before b;b>dd;c>x;d>yy;");
+        Due.act(b, "first 2 if share 1 > 10 and people > 3; votes 10; dead 70; both; far 999 apart 9; sign 1;");
         b.people(1, 2, 7);
         b.part(0, 1);
         b.people(0, 0, 8);
         Due.name(b, "cc", 1, 2);
-        Due.name(b, "ccdd", 1, 1);
+        Due.name(b, "ccdd", 1, 0);
         Due.tape(b, "d").name(0, 1, 2);
         Due.settle(b, 1);
         Due.settle(b, 2);
