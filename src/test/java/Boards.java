@@ -20,7 +20,11 @@ final class Boards {
     }
 
     private static NameBoard full() {
-        NameBoard b = new NameBoard();
+        return fillFull(new NameBoard());
+    }
+
+    /** Makes a board on which nothing is told or done like all others that have all. */
+    static NameBoard fillFull(NameBoard b) {
         b.place(0, 0);
         b.place(3, 4);
         b.place(100, 0);
@@ -31,7 +35,7 @@ final class Boards {
         b.people(1, 1, 5);
         b.people(2, 2, 7);
         Due.spelling(b, 0, "a>e;b>-before#;");
-        Due.act(b, "both; votes 60; far 5 apart 1; dead 3; sign 4;");
+        Due.act(b, "both if not share 2>90 and people>0 and year<300; votes 60; far 5 apart 1; dead 3; sign 4;");
         Due.name(b, "abab", 0, 0);
         Due.name(b, "bcb", 0, 1);
         Due.name(b, "cacc", 1, 1);
@@ -70,6 +74,35 @@ final class Boards {
         b.shown(0, 12, 12);
         Due.act(b, "first 7;");
         return Due.tape(b, "tape");
+    }
+
+    /** Tells otherwise all that the board that has all is told, in as many rows of each sort and more. */
+    static void fillOtherwise(NameBoard b) {
+        for (int i = 0; i < 6; i++) {
+            b.place(700 - 9 * i, 50 + i);
+        }
+        Due.spelling(b, 2, "dcb>x;");
+        Due.spelling(b, 1, "after # cb>xyz before a;ba>uvw before bcd;after abc d>-;b>q;c>rs;");
+        b.next(1);
+        Due.spelling(b, 0, "c>cc;");
+        Due.act(b, "first 2 if share 1>7 and not parts>5 and not people<1 and not year=3; both if not people=4; far 900 apart 7; dead 50;"
+                + "votes 7; sign 77; both; first 1;");
+        Due.act(b, "both if year<300 and not year=100; sign 1; far 1 apart 0;");
+        b.next(1);
+        for (int i = 0; i < 9; i++) {
+            b.people(5 - i % 6, (i + 1) % 3, 100 + i);
+            b.part(4 - i % 5, 5 - i % 5);
+            Due.tape(b, "dcbadcbaabcd".substring(i)).name(5 - i % 6, (i + 2) % 3, i % 2 == 0 ? 1 : -9);
+        }
+        for (int i = 0; i < 9; i++) {
+            Due.settle(b, 8 - i);
+            b.sign(i % 6, 50 + i);
+            b.undo(i % 6, i % 3);
+            b.next(1);
+        }
+        for (int i = 0; i < 4; i++) {
+            votes(b, b.ask(i), false, false, false, true, true);
+        }
     }
 
     private static void votes(NameBoard b, int hearing, boolean... votes) {

@@ -29,10 +29,26 @@ final class Edge {
     private Supplier<NameBoard> make = Boards.FULL;
 
     Edge() throws IOException {
+        if (!Files.exists(DOC)) {
+            System.out.println("no document here: the quotes are not looked up");
+            return;
+        }
+        readSections(Files.readString(DOC));
+        for (Map.Entry<String, String> entry : sections.entrySet()) {
+            entry.setValue(entry.getValue().replaceAll("\\s+", " ").trim());
+            quoted.put(entry.getKey(), new boolean[entry.getValue().length()]);
+        }
+        due.part("the document");
+        due.is("terms, promises and the one about use", sections.size(), 50);
+    }
+
+    private void readSections(String doc) {
         String section = "";
-        for (String line : Files.readString(DOC).split("\n")) {
+        for (String line : doc.split("\n")) {
             if (line.matches("## Promise [0-9]+: .*")) {
                 section = line.replaceAll("## Promise ([0-9]+): .*", "$1");
+            } else if (line.startsWith("An object is used")) {
+                sections.put("use", line);
             } else if (line.matches("(I|II|III|IV|V|VI)\\. .*")) {
                 section = line.substring(0, line.indexOf('.'));
                 sections.merge(section, line.substring(line.indexOf('.') + 1), String::concat);
@@ -43,18 +59,15 @@ final class Edge {
                 sections.merge(section, " " + line.replaceFirst("^`[^`]*`: ", ""), String::concat);
             }
         }
-        for (Map.Entry<String, String> entry : sections.entrySet()) {
-            entry.setValue(entry.getValue().replaceAll("\\s+", " ").trim());
-            quoted.put(entry.getKey(), new boolean[entry.getValue().length()]);
-        }
-        due.part("the document");
-        due.is("terms and promises", sections.size(), 49);
     }
 
     /** What follows tests this sentence of a term (I to VI) or a promise (1 to 43), on the board that has all. */
     void sentence(String section, String quote) {
         make = Boards.FULL;
         due.part(section + " \"" + quote + "\"");
+        if (sections.isEmpty()) {
+            return;
+        }
         int at = sections.getOrDefault(section, "").indexOf(quote);
         due.is("it stands in the document", at >= 0 ? 1 : 0, 1);
         for (int i = at; at >= 0 && i < at + quote.length(); i++) {

@@ -86,6 +86,8 @@ final class EdgesOfActs {
         faulty("far 1;", 1, 5);
         faulty("far apart 1;", 1, 4);
         faulty("far 1 apart;", 1, 11);
+        faulty("far 1 2;", 1, 6);
+        faulty("far 1 part 2;", 1, 6);
         faulty("far 1 apart 1 if year<1;", 1, 14);
         faulty("dead;", 1, 4);
         faulty("dead 1 if year<1;", 1, 7);
@@ -144,6 +146,8 @@ final class EdgesOfActs {
         faulty("both if <9;", 1, 8);
         faulty("both if not not people<9;", 1, 12);
         faulty("both if not <9;", 1, 12);
+        faulty("both if not;", 1, 11);
+        faulty("both if not and year<1;", 1, 12);
         faulty("both if people not<9;", 1, 15);
         faulty("both if people>x;", 1, 15);
 
@@ -154,6 +158,18 @@ final class EdgesOfActs {
         holds("people=9 and people=9 and people=9", true);
         faulty("both if year<1 and year<1 and year<1 and year<1 and year<1;", 3, 52);
         reads("both if year<1 and year<1 and year<1 and year<1;first 0 if year<1 and year<1 and year<1 and year<1;", 2);
+        NameBoard b = of(5, 4, 0);
+        String eleven = "both if year<1and year<2and year<3and year=".repeat(11).replace("=", "=0;");
+        for (int act = 0; act < 8; act++) {
+            String text = "both;" + eleven.substring(0, eleven.length() - 2) + act + ";";
+            edge.is("all that fits, in " + text.length() + " bytes", Due.act(b, text), 12);
+        }
+        b = of(5, 4, 0);
+        for (int act = 0; act < 8; act++) {
+            Due.act(b, "dead 1;".repeat(11) + "first 2 if year<99 and year<98 and year<97 and not year=" + act + ";");
+        }
+        edge.is("the last COND of the last LINE of the last ACT holds", b.first(0, 6, 0), 2);
+        edge.is("the last COND of the last LINE of the last ACT does not hold", b.first(0, 7, 0), 0);
     }
 
     private void shares() {
@@ -164,8 +180,10 @@ final class EdgesOfActs {
         holds("share 2>66", false);
         holds("share 2<67", true);
         NameBoard b = Boards.places(1);
-        Due.act(b, "first 1 if share 2=0 and people=0; first 2 if share 2=100; first 1 if share 2=99;");
+        Due.act(b, "first 1 if share 2=0 and people=0; first 0 if share 2=100 and people=1; first 2 if share 2=100; first 1 if share 2=99;");
         edge.is("without people", b.first(0, 0, 0), 1);
+        b.people(0, 2, 1);
+        edge.is("one of one", b.first(0, 0, 0), 0);
         b.people(0, 2, 2000);
         edge.is("all", b.first(0, 0, 0), 2);
         b.people(0, 0, 1);
@@ -351,6 +369,17 @@ final class EdgesOfActs {
         edge.is("a FAULT", b.act(), -4);
         edge.is("the TAPE is empty", b.count(9), 0);
         edge.is("nothing is told", Edge.difference(Picture.told(b), Picture.told(Boards.FULL.get())), "");
+        b = Boards.FULL.get();
+        edge.is("a FAULT", Due.act(b, "first 2 if year>50 and year>60; both if year>70; far 9999 apart 9999; dead 99; sign 99; votes 99; ?"), -4);
+        edge.is("the next one", Due.act(b, "first 2; both;"), 2);
+        edge.is("FIRST, without CONDS", b.first(0, 12, 12), 2);
+        edge.is("BESIDE, without CONDS", b.beside(0, 12, 12), 1);
+        edge.is("sign of the one with the FAULT", b.signOf(0, 1), 15);
+        edge.is("votes, dead and far of the one with the FAULT", b.close(5), 0);
+        NameBoard years = Boards.lame(1);
+        edge.is("a FAULT", Due.act(years, "first 1 if year>2; sign 3; ?"), -4);
+        edge.is("no LINES", Due.act(years, ""), 0);
+        edge.is("nothing of the one with the FAULT is left", years.signOf(0, 1), 11);
         b = Boards.acts(7);
         edge.is("the 8th", b.act(), 1);
         edge.is("ACTS", b.count(4), 8);

@@ -161,6 +161,15 @@ final class EdgesOfHearings {
         edge.is("both are UNDONE", Due.settle(b, 2), 0);
         edge.is("another one on it", Due.settle(b, 3), 0);
         edge.is("one that lies below another one", Due.settle(b, 0), 0);
+        b = Boards.places(40);
+        Due.act(b, "far 9999 apart 0;");
+        Due.name(b, "aa", 0, 2);
+        Due.name(b, "aa", 39, 2);
+        edge.is("at the first of 40 PLACES", Due.settle(b, 0), 0);
+        edge.is("at the last of 40 PLACES", Due.settle(b, 1), 3);
+        b.undo(0, 2);
+        edge.is("at the last of 40 PLACES", Due.settle(b, 1), 0);
+        edge.is("at the first of 40 PLACES", Due.settle(b, 0), 3);
         b = Boards.places(2);
         Due.name(b, "aa", 0, 0);
         Due.name(b, "bb", 1, 1);
@@ -278,6 +287,11 @@ final class EdgesOfHearings {
 
         edge.sentence("22", "-5: one about its PLACE is open.");
         edge.refused("name", -5, (x, v) -> x.ask(v), 0, 1, 3, 4);
+        b = Boards.names(4);
+        b.ask(0);
+        edge.is("the very first one", b.ask(2), -5);
+        edge.is("about another PLACE", b.ask(1), 1);
+        edge.is("HEARINGS", b.count(5), 2);
         b = Boards.FULL.get();
         b.close(5);
         edge.is("it is closed", b.ask(1), 7);

@@ -153,6 +153,77 @@ final class EdgesOfImages {
         Due.tape(b, "xyz");
     }
 
+    /** Tells one thing, goes back to nothing, and tells another: each as it was, seen from the other. */
+    private static String otherwiseBetween(boolean one) {
+        NameBoard b = new NameBoard();
+        b.keep(1);
+        Boards.fillFull(b);
+        b.keep(2);
+        b.back(1);
+        Boards.fillOtherwise(b);
+        b.keep(0);
+        b.back(one ? 2 : 0);
+        b.back(one ? 0 : 2);
+        b.back(one ? 2 : 0);
+        return Picture.told(b);
+    }
+
+    private static String toldOtherwise() {
+        NameBoard b = new NameBoard();
+        Boards.fillOtherwise(b);
+        return Picture.told(b);
+    }
+
+    /** A PLACE at x, y is in an IMAGE, one at otherX, otherY is told in between: is it within 5 miles of 0, 0? */
+    private static int alikeBetween(int x, int y, int otherX, int otherY) {
+        NameBoard b = new NameBoard();
+        b.keep(0);
+        b.place(0, 0);
+        b.place(x, y);
+        Due.act(b, "far 5 apart 0;");
+        Due.name(b, "aa", 0, 0);
+        Due.name(b, "aa", 1, 0);
+        Due.settle(b, 0);
+        b.keep(1);
+        b.back(0);
+        b.place(otherY, otherX);
+        b.place(otherX, otherY);
+        b.back(1);
+        return Due.settle(b, 1);
+    }
+
+    private void lastConds() {
+        NameBoard b = Boards.places(1);
+        b.keep(0);
+        for (int act = 0; act < 8; act++) {
+            Due.act(b, "dead 1;".repeat(11) + "first 2 if year<99 and year<98 and year<97 and not year=" + act + ";");
+        }
+        b.keep(1);
+        b.back(0);
+        for (int act = 0; act < 8; act++) {
+            Due.act(b, "dead 1;".repeat(11) + "first 1 if not share 0=1 and not share 0=2 and not share 0=3 and people>4;");
+        }
+        b.back(1);
+        edge.is("the last COND of the last LINE of the last ACT holds", b.first(0, 6, 0), 2);
+        edge.is("the last COND of the last LINE of the last ACT does not hold", b.first(0, 7, 0), 0);
+        edge.is("the first one does not hold", b.first(0, 99, 0), 0);
+    }
+
+    private void votesOfNone() {
+        NameBoard b = Boards.names(1);
+        b.keep(0);
+        b.ask(0);
+        b.vote(0, 0, true);
+        b.vote(0, 1, true);
+        b.back(0);
+        b.ask(0);
+        edge.is("nobody voted in that HEARING", b.close(0), 1);
+        b.back(0);
+        b.ask(0);
+        b.vote(0, 2, false);
+        edge.is("one voted in that HEARING, against", b.close(0), 1);
+    }
+
     private void back() {
         edge.sentence("39", "All that is as IMAGE k has it: 0.");
         NameBoard b = Boards.FULL.get();
@@ -176,6 +247,12 @@ final class EdgesOfImages {
         empty.back(2);
         edge.is("an IMAGE of a new object", Edge.difference(Picture.told(empty), Picture.told(new NameBoard())), "");
         edge.is("an IMAGE of a new object is not nothing", empty.back(2), 0);
+        edge.is("told otherwise in between", Edge.difference(otherwiseBetween(true), Picture.told(Boards.FULL.get())), "");
+        edge.is("and that once more", Edge.difference(otherwiseBetween(false), toldOtherwise()), "");
+        votesOfNone();
+        lastConds();
+        edge.is("where PLACES lie, near", alikeBetween(3, 4, 900, 0), 3);
+        edge.is("where PLACES lie, far", alikeBetween(3, 5, 0, 0), 0);
         edge.taken("k", (x, v) -> x.back(v), 0);
 
         edge.sentence("39", "-2: no such k; -6: it has nothing.");

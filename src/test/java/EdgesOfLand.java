@@ -11,6 +11,7 @@ final class EdgesOfLand {
     }
 
     void run() {
+        use();
         years();
         places();
         people();
@@ -24,6 +25,35 @@ final class EdgesOfLand {
         peopleCounted();
         counted();
         live();
+    }
+
+    private void use() {
+        edge.sentence("use", "An object is used for at most 512 calls after it has been made; what later calls answer is free.");
+        NameBoard b = Boards.places(40);
+        b.people(39, 0, 1);
+        int calls = 41;
+        int year = 0;
+        for (int place = 0; calls < 512; calls++) {
+            // As many tellings as there can be: 38 in a YEAR, and one call for the next one.
+            if (place < 38) {
+                place++;
+                edge.is("call " + calls, b.part(place, year % 2 == 0 ? 0 : NONE), 0);
+            } else {
+                place = 0;
+                year++;
+                edge.is("call " + calls, b.next(1), year);
+            }
+        }
+        NameBoard last = Boards.places(40);
+        last.people(39, 0, 1);
+        for (calls = 41; calls < 511; calls++) {
+            last.part(39, calls % 2 == 0 ? 0 : NONE);
+        }
+        edge.is("the 512th call", last.live(0, 0, 0, 0), 1);
+        edge.is("YEARS", year, 12);
+        b.people(1, 0, 7);
+        edge.is("what was told in the last one", b.live(0, 0, 12, 12), 7);
+        edge.is("in the one ahead of it", b.first(1, 11, 11), 0);
     }
 
     private void years() {
@@ -84,6 +114,9 @@ final class EdgesOfLand {
             edge.is("in " + year, whose(b, year, 399), whose[year]);
             edge.is("as known in " + year, whose(b, 399, year), whose[year]);
         }
+        for (int year = whose.length - 1; year >= 0; year--) {
+            edge.is("asked behind a later YEAR, in " + year, whose(b, year, 399), whose[year]);
+        }
 
         edge.sentence("I", "TONGUES 0 .. 2.");
         edge.told("live of", (x, v) -> x.live(0, v, 0, 0), 0, 1, 2);
@@ -115,6 +148,9 @@ final class EdgesOfLand {
         for (int year = 0; year < due.length; year++) {
             edge.is("in " + year, b.live(0, 0, year, 399), due[year]);
             edge.is("as known in " + year, b.live(0, 0, 399, year), due[year]);
+        }
+        for (int year = due.length - 1; year >= 0; year--) {
+            edge.is("asked behind a later YEAR, in " + year, b.live(0, 0, year, 399), due[year]);
         }
         edge.is("of another TONGUE", b.live(0, 1, 399, 399), 0);
 

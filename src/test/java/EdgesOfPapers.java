@@ -66,6 +66,9 @@ final class EdgesOfPapers {
         joins(land(100, "a", "b", "c", "d", "e", "f", "g", "h", "i", "j"), 20, "9", "j");
         joins(land(90, "a", "b", "c", "d", "e", "f", "g", "h", "i", "j", "k"), NONE, "", "j");
         joins(land(90, "a", "b", "c", "d", "e", "f", "g", "h", "i", "", "k"), 20, "10", "k");
+        joins(land(100, "a", "q"), 16, "0 1", "a", "a" + "z".repeat(23));
+        joins(land(100, "q", "a", "z"), 17, "1 2", "a", "a" + "z".repeat(23));
+        joins(land(100, "aaa", "bbb"), 35, "0 1", "aaa", "bbbbbbbb");
         joins(land(90, "a", "b", "c", "d", "e", "f", "g", "h", "i", "j"), 140, "9 8 7 6 5 4 3", "j", "i", "h", "g", "f", "e", "d");
         joins(land(100, "a", "b", "c", "d", "e", "f", "g"), 135, "0 1 2 3 4 5 6", "a", "q", "q", "q", "q", "q", "g");
     }
@@ -214,6 +217,12 @@ final class EdgesOfPapers {
             }
             edge.is(names + " names, two PLACES that have NAMES", b.join() == NONE ? 1 : 0, names == 3 ? 1 : 0);
         }
+        b = Boards.names(80);
+        b.place(9, 9);
+        b.paper(0);
+        edge.is("80 NAMES, and a PLACE that has none", b.join(), 0);
+        b.written();
+        edge.is("one name", b.join(), 17);
         b = land(90, "a", "b", "c", "d", "e", "f", "g", "h", "i", "j j", "");
         b.paper(0);
         edge.is("10 PLACES, 11 NAMES", b.join(), 0);

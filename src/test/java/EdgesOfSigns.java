@@ -1,8 +1,16 @@
+import java.util.List;
+import java.util.function.Consumer;
+
 /** Edges of terms IV and V and of promises 28 to 32: SIGNS, when they are LAME, and the PLAN. */
 final class EdgesOfSigns {
     private static final int NONE = NameBoard.NONE;
     private static final int MIN = Integer.MIN_VALUE;
     private static final int MAX = Integer.MAX_VALUE;
+
+    /** Each sort of telling that changes what is SHOWN at PLACE 0. */
+    private static final List<Consumer<NameBoard>> TELLINGS = List.of(
+            b -> b.part(1, 0), b -> b.people(0, 1, 1), b -> countOne(b), b -> Due.act(b, "first 1;"),
+            b -> Due.spelling(b, 0, "o>a;"), b -> Due.settle(b, 1), b -> b.undo(0, 0));
 
     private final Edge edge;
 
@@ -32,6 +40,11 @@ final class EdgesOfSigns {
         Due.name(b, "ore", 0, 1);
         Due.settle(b, 0);
         return b;
+    }
+
+    private static void countOne(NameBoard b) {
+        Boards.fill(b, 0, 0, 0, 1, 1);
+        b.counted(0);
     }
 
     private void is(NameBoard b, String what, int lame, int by, int late) {
@@ -72,6 +85,8 @@ final class EdgesOfSigns {
         is(b, "by other RULES", 0, NONE, 0);
         Due.spelling(b, 0, "d>t;");
         is(b, "its last letter", 1, 11, 0);
+        Due.spelling(b, 0, "o>u;");
+        is(b, "its first letter", 1, 11, 0);
         Due.spelling(b, 0, "d>-;");
         is(b, "a letter less", 1, 11, 0);
         Due.spelling(b, 0, "d>dd;");
@@ -117,6 +132,23 @@ final class EdgesOfSigns {
         is(b, "another other one", 1, 13, 0);
         b.next(395);
         is(b, "up to the last YEAR", 1, 13, 386);
+        for (Consumer<NameBoard> telling : TELLINGS) {
+            b = land();
+            b.place(1, 1);
+            b.people(1, 1, 9);
+            b.sign(0, 1);
+            b.next(2);
+            b.people(1, 1, 8);
+            b.next(2);
+            telling.accept(b);
+            b.keep(0);
+            b.next(2);
+            b.people(1, 1, 7);
+            is(b, "by what was told in 4, " + TELLINGS.indexOf(telling), 1, 14, 0);
+            b.back(0);
+            b.next(11);
+            is(b, "gone back, by what was told in 4, " + TELLINGS.indexOf(telling), 1, 14, 1);
+        }
         b = land();
         Due.act(b, "first 1 if year=7; first 1 if year>9;");
         b.next(5);

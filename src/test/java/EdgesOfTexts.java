@@ -322,6 +322,9 @@ final class EdgesOfTexts {
         edge.is("put to the board", Due.settle(b, 6), 0);
         edge.is("its PLACE and TONGUE", Boards.settledNow(b, 3, 1), 6);
         edge.is("the next one has no SOUND", b.name(3, 1, NONE), -2);
+        b = Due.tape(Boards.places(1), "abc");
+        edge.is("the first", b.name(0, 0, NONE), 0);
+        edge.is("the TAPE is empty", b.count(9), 0);
 
         edge.sentence("10", "of a person who died in a YEAR (0 .. NOW; NONE: of none; -9: of one who lives): its number.");
         edge.taken("died in", (x, v) -> x.name(0, 0, v), 0, 12, NONE, -9);
@@ -346,6 +349,9 @@ final class EdgesOfTexts {
 
         edge.sentence("10", "-3: there are 80.");
         edge.is("the 80th", Boards.names(79).name(0, 0, NONE), 79);
+        NameBoard last = Boards.names(79);
+        edge.is("the 80th, of 12 letters", Due.name(last, "abcdefghijkl", 0, 0), 79);
+        edge.is("the 80th, of 12 letters", Boards.spelled(last, 79, 0), "abcdefghijkl");
         edge.on(Boards.NAMES);
         edge.refused("an 81st", -3, x -> x.name(0, 0, NONE));
         edge.refused("an 81st of no PLACE", -2, x -> x.name(2, 0, NONE));
@@ -368,6 +374,11 @@ final class EdgesOfTexts {
         edge.is("a FAULT", b.spelling(2), -4);
         edge.is("the TAPE is empty", b.count(9), 0);
         edge.is("nothing is told", Edge.difference(Picture.told(b), Picture.told(Boards.FULL.get())), "");
+        b = Boards.places(1);
+        Due.name(b, "aba", 0, 0);
+        edge.is("a FAULT", Due.spelling(b, 0, "after x a>bcd before x; b>bcd; a>xyz; ?"), -4);
+        edge.is("the next one", Due.spelling(b, 0, "a>-;b>c;"), 2);
+        edge.is("nothing of the one with the FAULT is left", Boards.spelled(b, 0, 0), "c");
 
         edge.sentence("11", "-2, -3 (the TAPE stays): no such TONGUE; there are 12.");
         edge.taken("tongue", (x, v) -> Due.tape(x, "a>b;").spelling(v), 0, 2);
@@ -501,6 +512,9 @@ final class EdgesOfTexts {
         Due.name(b, "a", 1, 1);
         Due.name(b, "ba", 2, 2);
         edge.is("the one begins the other", b.alikes(0), 0);
+        edge.is("their first letters are unlike", alikesOf("aaaaaaaaaaaa", "baaaaaaaaaaa"), 0);
+        edge.is("their last letters are unlike", alikesOf("aaaaaaaaaaaa", "aaaaaaaaaaab"), 0);
+        edge.is("36 letters are alike", alikesOf("aaaaaaaaaaaa", "aaaaaaaaaaaa"), 1);
         b.next(1);
         Due.spelling(b, 2, "ba>ab;");
         edge.is("ahead of the rules", b.alikes(0), 0);
@@ -512,6 +526,15 @@ final class EdgesOfTexts {
         edge.sentence("17", "-2: no such YEAR.");
         edge.told("year", (x, v) -> x.alikes(v), 0, 399);
         edge.refusedBeside("year", 0, 399, -2, (x, v) -> x.alikes(v));
+    }
+
+    /** Two SOUNDS that are SPELLED with three letters for each of theirs. */
+    private static int alikesOf(String one, String other) {
+        NameBoard b = Boards.places(2);
+        Due.spelling(b, 0, "a>xyz;after # b>wyz;b>xyw;");
+        Due.name(b, one, 0, 0);
+        Due.name(b, other, 1, 0);
+        return b.alikes(0);
     }
 
     private void edits() {

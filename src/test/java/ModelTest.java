@@ -15,13 +15,16 @@ public final class ModelTest {
     private final int places;
     /** How seldom an IMAGE is gone back to: often in some runs, so that rows are told otherwise, never in others. */
     private final int backs;
+    /** At times there is as much of all as there may be. */
+    private final boolean crowded;
     private final StringBuilder log = new StringBuilder();
     private int wrong;
 
     private ModelTest(long seed) {
         // Neighbouring seeds begin alike: far ones do not.
         random = new Random(seed * 0x9E3779B97F4A7C15L);
-        places = 1 + random.nextInt(random.nextBoolean() ? 4 : 12);
+        crowded = random.nextInt(24) == 0;
+        places = crowded ? 40 : 1 + random.nextInt(random.nextBoolean() ? 4 : 12);
         backs = 1 << random.nextInt(6);
         weights = new int[33];
         for (int i = 0; i < weights.length; i++) {
@@ -180,6 +183,42 @@ public final class ModelTest {
             int x = below(100);
             int y = below(60);
             same("place", board.place(x, y), model.place(x, y));
+        }
+        if (crowded) {
+            crowd();
+        }
+    }
+
+    /** Fills each sort of thing up to its limit and a little beyond; the NAMES of some boards are of ten PLACES. */
+    private void crowd() {
+        int named = random.nextBoolean() ? 10 : places;
+        for (int i = 0; i < 82; i++) {
+            int p = below(named);
+            int t = below(3);
+            tape(letters(12));
+            same("name(" + p + ", " + t + ", -1)", board.name(p, t, -1), model.name(p, t, -1));
+        }
+        for (int i = 0; i < 210 && wrong == 0; i++) {
+            int p = below(places);
+            int t = below(3);
+            int n = below(20);
+            same("people(" + p + ", " + t + ", " + n + ")", board.people(p, t, n), model.people(p, t, n));
+            if (i % 10 == 0) {
+                tell(0);
+                tell(1);
+                tell(6);
+                tell(7);
+            }
+        }
+        for (int i = 0; i < 70 && wrong == 0; i++) {
+            int name = i % 80;
+            same("ask(" + name + ")", board.ask(name), model.ask(name));
+            same("vote(" + i + ", 0, true)", board.vote(i, 0, true), model.vote(i, 0, true));
+            same("close(" + i + ")", board.close(i), model.close(i));
+        }
+        for (int i = 0; i < 42; i++) {
+            int p = i % 5 == 0 ? 0 : below(places);
+            same("sign(" + p + ", " + i + ")", board.sign(p, i), model.sign(p, i));
         }
     }
 

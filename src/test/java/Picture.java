@@ -130,6 +130,9 @@ final class Picture {
     }
 
     private void hearings() {
+        for (int name = 0; name < b.count(2); name++) {
+            add("ask " + name, b.ask(name));
+        }
         for (int hearing = 0; hearing < b.count(5); hearing++) {
             add("close " + hearing, b.close(hearing));
         }
