@@ -1,8 +1,10 @@
 import java.util.TreeSet;
 
 /**
- * All that calls can see of a board, as one text. Looking uses the board up (HEARINGS are closed, rows are pasted,
- * IMAGES gone back to), and takes more than 512 calls: this class answers these like the others.
+ * What calls can see of a board, as one text. Not looked at: the numbers of SLOT 3, bytes of the TAPE behind the first 12
+ * (or any that are no letters), and numbers of SLOTS when 200 COUNTS are kept; WRITTEN names and votes are seen only by
+ * what they lead to. Looking uses the board up (HEARINGS are closed, rows are pasted, IMAGES gone back to), and takes
+ * more than 512 calls: this class answers these like the others.
  */
 final class Picture {
     private static final int NONE = NameBoard.NONE;
