@@ -383,6 +383,9 @@ final class EdgesOfActs {
         b = Boards.acts(7);
         edge.is("the 8th", b.act(), 1);
         edge.is("ACTS", b.count(4), 8);
+        b = Due.tape(Boards.acts(8), "ab>c;b>d;");
+        edge.is("a 9th", b.act(), -3);
+        edge.is("the TAPE stays, byte by byte", b.spelling(0), 2);
         edge.on(Boards.ACTS);
         edge.refused("a 9th", -3, x -> x.act());
         edge.on(() -> Due.tape(Boards.acts(8), "?"));

@@ -184,6 +184,9 @@ final class EdgesOfPapers {
             boolean is = sign >= 'a' && sign <= 'z';
             edge.is("the byte " + sign, Due.tape(Boards.written(0), "a" + (char) sign).written(), is ? 1 : -2);
         }
+        b = Due.tape(Boards.written(0), "ab > c;");
+        edge.is("the TAPE is a text", b.written(), -2);
+        edge.is("it stays, byte by byte", b.spelling(0), 1);
         edge.on(Boards.NAMES);
         edge.refused("no PAPER", -2, x -> x.written());
 

@@ -347,6 +347,10 @@ final class EdgesOfTexts {
             edge.refused("the TAPE '" + tape + "'", -2, x -> x.name(0, 0, NONE));
         }
 
+        NameBoard text = Due.tape(Boards.places(1), "ab > c;");
+        edge.is("the TAPE is a text", text.name(0, 0, NONE), -2);
+        edge.is("it stays, byte by byte", text.spelling(0), 1);
+
         edge.sentence("10", "-3: there are 80.");
         edge.is("the 80th", Boards.names(79).name(0, 0, NONE), 79);
         NameBoard last = Boards.names(79);
@@ -383,6 +387,12 @@ final class EdgesOfTexts {
         edge.sentence("11", "-2, -3 (the TAPE stays): no such TONGUE; there are 12.");
         edge.taken("tongue", (x, v) -> Due.tape(x, "a>b;").spelling(v), 0, 2);
         edge.refusedBeside("tongue", 0, 2, -2, (x, v) -> x.spelling(v));
+        b = Due.tape(Boards.places(1), "ab>c;b>d;");
+        b.spelling(3);
+        edge.is("the TAPE stays, byte by byte", b.spelling(0), 2);
+        b = Due.tape(Boards.spellings(12), "dead 9999;");
+        edge.is("a 13th", b.spelling(0), -3);
+        edge.is("the TAPE stays, byte by byte", b.act(), 1);
         b = Boards.spellings(11);
         edge.is("the 12th", b.spelling(2), 1);
         edge.is("SPELLINGS", b.count(3), 12);
