@@ -551,6 +551,13 @@ public final class NameBoard {
         return told;
     }
 
+    /** LANGUAGE.md lists the library's copying of numbers alone. */
+    private static void copyFlags(boolean[] from, boolean[] to, int n) {
+        for (int i = 0; i < n && i < from.length && i < to.length; i++) {
+            to[i] = from[i];
+        }
+    }
+
     private int rowsHad() {
         int had = 0;
         for (int slot = 0; slot < SLOTS; slot++) {
@@ -578,7 +585,7 @@ public final class NameBoard {
 
         void copyFrom(State s) {
             now = s.now;
-            System.arraycopy(s.told, 0, told, 0, YEARS);
+            copyFlags(s.told, told, YEARS);
             land.copyFrom(s.land);
             speech.copyFrom(s.speech);
             acts.copyFrom(s.acts);
@@ -1098,13 +1105,13 @@ public final class NameBoard {
             acts = a.acts;
             System.arraycopy(a.years, 0, years, 0, acts);
             System.arraycopy(a.lines, 0, lines, 0, acts);
-            System.arraycopy(a.looksAtYear, 0, looksAtYear, 0, acts);
+            copyFlags(a.looksAtYear, looksAtYear, acts);
             int all = acts * LINES;
             System.arraycopy(a.kinds, 0, kinds, 0, all);
             System.arraycopy(a.numbers, 0, numbers, 0, all);
             System.arraycopy(a.aparts, 0, aparts, 0, all);
             System.arraycopy(a.conds, 0, conds, 0, all);
-            System.arraycopy(a.condNots, 0, condNots, 0, all * CONDS);
+            copyFlags(a.condNots, condNots, all * CONDS);
             System.arraycopy(a.condFacts, 0, condFacts, 0, all * CONDS);
             System.arraycopy(a.condSides, 0, condSides, 0, all * CONDS);
             System.arraycopy(a.condNumbers, 0, condNumbers, 0, all * CONDS);
@@ -1215,7 +1222,7 @@ public final class NameBoard {
             hearings = b.hearings;
             System.arraycopy(b.names, 0, names, 0, hearings);
             System.arraycopy(b.places, 0, places, 0, hearings);
-            System.arraycopy(b.isOpen, 0, isOpen, 0, hearings);
+            copyFlags(b.isOpen, isOpen, hearings);
             System.arraycopy(b.voted, 0, voted, 0, hearings);
             System.arraycopy(b.votedFor, 0, votedFor, 0, hearings);
             settlings = b.settlings;

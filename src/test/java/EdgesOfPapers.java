@@ -78,6 +78,8 @@ final class EdgesOfPapers {
         joins(land(100, "abcd"), 20, "0", "abcd");
         joins(land(100, "abcd"), 16, "0", "wxyz");
         joins(land(100, "a"), -4, "0", "z".repeat(24));
+        joins(land(100, "a"), 0, "0", "z".repeat(20));
+        joins(land(100, "a"), -1, "0", "z".repeat(21));
         joins(land(100, "wxyz abce"), 19, "0", "abcd");
         joins(land(100, "abce wxyz"), 19, "0", "abcd");
         NameBoard wide = land(100, "aaaaaaaaaaaa");

@@ -196,9 +196,24 @@ public final class LanguageTest extends TreePathScanner<Void, Void> {
         }
     }
 
+    /** The library copies and fills rows of numbers alone. */
+    private void looksAtRows(MethodInvocationTree tree) {
+        String called = tree.getMethodSelect().toString();
+        if (!called.equals("System.arraycopy") && !called.startsWith("Arrays.")) {
+            return;
+        }
+        for (Tree argument : tree.getArguments()) {
+            String type = trees.getTypeMirror(new TreePath(getCurrentPath(), argument)).toString();
+            if (type.endsWith("[]") && !type.matches("(byte|short|int|long)\\[\\]")) {
+                blame(4, called + " over " + type + " at line " + line(tree));
+            }
+        }
+    }
+
     @Override
     public Void visitMethodInvocation(MethodInvocationTree tree, Void p) {
         called(tree.getMethodSelect());
+        looksAtRows(tree);
         return super.visitMethodInvocation(tree, p);
     }
 
